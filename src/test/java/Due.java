@@ -1,0 +1,56 @@
+/** What the tests share: answers compared with those that are due, texts fed, tunes written into rows. */
+final class Due {
+    private static int wrong = 0;
+    private static int asked = 0;
+
+    private Due() { }
+
+    static void is(String call, long got, long due) {
+        asked++;
+        if (got != due) {
+            wrong++;
+            System.out.println(call + " answered " + got + ", due is " + due);
+        }
+    }
+
+    static void end(String test) {
+        System.out.println(test + ": " + asked + " answers, " + wrong + " wrong");
+        if (wrong != 0) {
+            System.exit(1);
+        }
+    }
+
+    static void feed(JamSongs x, String text) {
+        for (int i = 0; i < text.length(); i++) {
+            x.feed(text.charAt(i));
+        }
+    }
+
+    static int read(JamSongs x, String text) {
+        feed(x, text);
+        return x.kitchen();
+    }
+
+    static JamSongs kitchen(String text) {
+        JamSongs x = new JamSongs();
+        if (read(x, text) < 0) {
+            throw new IllegalArgumentException(text);
+        }
+        return x;
+    }
+
+    /** A row of bytes whose items are the figures of the text. */
+    static void tune(JamSongs x, int row, String notes) {
+        x.row(row, 0, notes.length());
+        for (int i = 0; i < notes.length(); i++) {
+            x.set(row, i, notes.charAt(i) - '0');
+        }
+    }
+
+    /** Bars of the first singer alone. */
+    static void sing(JamSongs x, String notes) {
+        for (int i = 0; i < notes.length(); i++) {
+            x.bar(notes.charAt(i) - '0', 7, 7);
+        }
+    }
+}
