@@ -496,14 +496,14 @@ public final class JamSongs {
         trial.takeFrom(now);
         trial.keep(songBars[0]);
         int song = 0;
-        while (song < 1 << 3 * n) {
+        while (song < 1 << (3 * n)) {
             int cannot = trySong(singer, n, song);
             if (cannot >= n) {
                 weighSong(song, n);
                 song++;
             } else {
                 int behind = 3 * (n - 1 - cannot);
-                song = (song >> behind) + 1 << behind;
+                song = ((song >> behind) + 1) << behind;
             }
         }
     }
@@ -539,7 +539,7 @@ public final class JamSongs {
     }
 
     private static int noteOf(int song, int n, int b) {
-        return song >> 3 * (n - 1 - b) & 7;
+        return (song >> (3 * (n - 1 - b))) & 7;
     }
 
     /** In how many of ten to the n cases just these bars are coughed in. */

@@ -230,5 +230,10 @@ public final class ActsTest {
         Due.is("kinds", x.kind(1), 3);
         x.bar(2, 7, 7);
         Due.is("an act after it", x.undo(), 0);
+        x.bar(2, 7, 7);
+        x.window(0, 0, 0);
+        x.restore(0);
+        Due.is("acts before it are gone", x.count(6), 0);
+        Due.is("and cannot be undone", x.undo(), STATE);
     }
 }

@@ -112,6 +112,9 @@ public final class ForetoldTest {
         song(z, 0, 1, 0, "7");
         song(z, 0, 2, 1, "73");
         song(z, 1, 4, 1, "0777");
+        JamSongs v = Due.kitchen("j1;s0,6,9;s0,6,9;s0,6,9;p1,2,7;d0,2,6;");
+        song(v, 1, 2, 1, "77");
+        song(v, 0, 2, 2, "00");
         JamSongs w = Due.kitchen("j9;s0,6,9;p64,3,1;p127,4,1;");
         song(w, 0, 4, 2, "0666");
         song(w, 0, 3, 1, "666");
@@ -285,8 +288,12 @@ public final class ForetoldTest {
         for (int i = 0; i < got.length; i++) {
             Due.is("beyond, call " + i, got[i], BAD);
         }
-        Due.is("16 fits", x.alone(0, 0, 0, 16), 1);
-        Due.is("8 fits", x.round(8, 0, 0, 1), 1);
+        Due.is("16 alone", x.alone(0, 0, 0, 16), 1);
+        Due.is("16 as a round", x.round(0, 0, 0, 16), 1);
+        Due.is("16 as the best round", x.bestRound(0, 0, 16, 1), 1);
+        Due.is("16 with windows shut", x.toShut(0, 0, 0, 0, 16, 0), 0);
+        Due.is("16 by modes", x.modes(0, 0, 0, 0, 16, 1, 0), 64);
+        Due.is("8 apart", x.round(8, 0, 0, 1), 1);
         Due.is("coughs of 8 bars by 10", x.coughs(0, 0, 0, 0, 8, 10, 1), 1);
     }
 

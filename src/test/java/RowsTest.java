@@ -167,7 +167,21 @@ public final class RowsTest {
         Due.is("as BAD leaves it", x.status(), 3);
         x.as(0, 1);
         Due.is("as found none", x.status(), 0);
+        rowsLeaveIt(x);
         everyForetoldLeavesIt(x);
+    }
+
+    private static void rowsLeaveIt(JamSongs x) {
+        x.drop(5);
+        x.set(0, 0, 7);
+        Due.is("set found none", x.status(), 0);
+        x.drop(5);
+        x.copy(0, 0, 0, 0, 1);
+        Due.is("copy found none", x.status(), 0);
+        x.row(6, 0, 1);
+        x.drop(5);
+        x.drop(6);
+        Due.is("drop found none", x.status(), 0);
     }
 
     private static void everyForetoldLeavesIt(JamSongs x) {

@@ -10,6 +10,7 @@ public final class TextTest {
         faultsTwo();
         faultsThree();
         whatStays();
+        nothingIsLeft();
         Due.end("TextTest");
     }
 
@@ -157,5 +158,25 @@ public final class TextTest {
         Due.is("images stay", x.restore(0), 1);
         Due.is("the kitchen before", x.count(2), 2);
         Due.is("its thickness", x.pan(0, 3), 1);
+    }
+
+    /** A kitchen that is read begins anew, whatever was sung, foretold or told before. */
+    private static void nothingIsLeft() {
+        JamSongs x = Due.kitchen("j1;" + SINGER + SINGER + "p127,1,1;q127,9,1;d0,9,0;");
+        Due.tune(x, 0, "024");
+        x.bar(1, 7, 7);
+        x.alone(0, 0, 0, 3);
+        Due.is("one singer, one pan", Due.read(x, "j1;" + SINGER + "q127,2,1;"), 1);
+        int[] got = {x.count(1), x.count(2), x.count(3), x.count(5), x.singer(0, 3), x.pan(0, 3), x.pan(0, 5)};
+        int[] due = {1, 1, 0, 0, 0, 0, JamSongs.NONE};
+        for (int k = 0; k < due.length; k++) {
+            Due.is("anew, number " + k, got[k], due[k]);
+        }
+        x.alone(0, 0, 0, 3);
+        Due.is("no singers, no pans", Due.read(x, "j1;"), 0);
+        Due.is("SINGERS", x.count(1), 0);
+        Due.is("PANS", x.count(2), 0);
+        Due.is("no pan 0", x.pan(0, 0), BAD);
+        Due.is("no singer 0", x.singer(0, 0), BAD);
     }
 }
