@@ -2,14 +2,23 @@
 final class Due {
     private static int wrong = 0;
     private static int asked = 0;
+    private static String told = "";
 
     private Due() { }
+
+    /** Names what the next answers are for: a promise, or the Terms, and the sentence that stands there. */
+    static void says(String where, String sentence) {
+        told = where + ", '" + sentence + "': ";
+        if (!Document.name(where, sentence)) {
+            is("a sentence that the document does not have", 0, 1);
+        }
+    }
 
     static void is(String call, long got, long due) {
         asked++;
         if (got != due) {
             wrong++;
-            System.out.println(call + " answered " + got + ", due is " + due);
+            System.out.println(told + call + " answered " + got + ", due is " + due);
         }
     }
 
@@ -51,6 +60,13 @@ final class Due {
     static void sing(JamSongs x, String notes) {
         for (int i = 0; i < notes.length(); i++) {
             x.bar(notes.charAt(i) - '0', 7, 7);
+        }
+    }
+
+    /** Bars in which nobody sings. */
+    static void rest(JamSongs x, int bars) {
+        for (int b = 0; b < bars; b++) {
+            x.bar(7, 7, 7);
         }
     }
 }
