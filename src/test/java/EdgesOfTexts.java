@@ -247,6 +247,7 @@ final class EdgesOfTexts {
             + "thickened, nothing is SET, nobody has sung; no ACT can be undone; IMAGES and ROWS stay.");
         JamSongs x = Twins.story();
         Due.is("some are SET", x.count(5), 17);
+        Due.is("foretold ahead of it", x.round(0, 0, 0, 1), 17);
         x.kitchen();
         Due.is("the same text", Due.read(x, Twins.TEXT), 5);
         Due.is("BAR", x.count(3), 0);
