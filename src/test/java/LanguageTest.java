@@ -1,7 +1,11 @@
 import java.io.IOException;
+import java.lang.reflect.Modifier;
 import java.nio.charset.StandardCharsets;
 import java.nio.file.Files;
 import java.nio.file.Path;
+import java.util.ArrayList;
+import java.util.Arrays;
+import java.util.List;
 import java.util.regex.Matcher;
 import java.util.regex.Pattern;
 
@@ -29,7 +33,50 @@ public final class LanguageTest {
         Due.is("classes", code.split("\\bclass\\b").length - 1 <= 12 ? 1 : 0, 1);
         Due.is("signs above 127", text.chars().anyMatch(c -> c > 127) ? 1 : 0, 0);
         longMethods(code);
+        libraryCalls(code);
+        parameters(code);
+        fieldsOfEachClass();
+        objectsMade(code);
         Due.end("LanguageTest");
+    }
+
+    /** Rule 4. */
+    private static void libraryCalls(String code) {
+        Matcher calls = Pattern.compile("\\b(Integer|Long|Math|Arrays|System|String|List)\\.(\\w+)").matcher(code);
+        while (calls.find()) {
+            boolean stands = calls.group().matches("System\\.arraycopy|Arrays\\.(copyOf|copyOfRange|fill)"
+                + "|Integer\\.(bitCount|numberOfTrailingZeros)|Math\\.(abs|max|min)");
+            Due.is("library call " + calls.group(), stands ? 1 : 0, 1);
+        }
+    }
+
+    /** Rule 11: seven at most. */
+    private static void parameters(String code) {
+        Matcher methods = Pattern.compile("(?m)^ +[\\w\\[\\] ]+\\(([^()]*)\\) \\{").matcher(code);
+        while (methods.find()) {
+            Due.is("parameters of " + methods.group().trim(), methods.group(1).split(",").length <= 7 ? 1 : 0, 1);
+        }
+    }
+
+    /** Rule 11: some twenty beside the constants. */
+    private static void fieldsOfEachClass() {
+        List<Class<?>> classes = new ArrayList<>(List.of(JamSongs.class.getDeclaredClasses()));
+        classes.add(JamSongs.class);
+        for (Class<?> c : classes) {
+            long many = Arrays.stream(c.getDeclaredFields()).filter(f -> !Modifier.isStatic(f.getModifiers())).count();
+            Due.is("fields of " + c.getSimpleName() + ": " + many, many <= 20 ? 1 : 0, 1);
+        }
+    }
+
+    /** All calls of one run live in one room: an object makes its parts as it is made, and none later. */
+    private static void objectsMade(String code) {
+        for (String line : code.split("\n")) {
+            if (line.matches(".*\\bnew\\b.*")) {
+                boolean field = line.matches(" +(private )?final [\\w\\[\\]]+ \\w+ = new .*;\\s*");
+                boolean inConstructor = line.matches(" +(rows\\[r\\]|images\\[k\\]) = new \\w+\\(\\);\\s*");
+                Due.is("made by a field or in the constructor: " + line.trim(), field || inConstructor ? 1 : 0, 1);
+            }
+        }
     }
 
     private static void longMethods(String code) {
